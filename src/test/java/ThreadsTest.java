@@ -111,6 +111,13 @@ final class ThreadsTest {
         Check.due("the short one stays when no more is needed", x.threads(0), 1);
         Check.due("nothing thrown away", x.thrownAway(0), 0);
         Check.due("stock", x.stock(0), 2);
+
+        JacquardDeck y = Check.loom(1, 60);
+        y.addCone(0, 1, 20);
+        y.addCone(0, 1, 1);
+        y.addCone(0, 1, 8);
+        Check.due("20, none of 1, 5 of 8: a short one takes nothing from the others", y.weave(1), 1);
+        Check.due("thrown away", y.thrownAway(0), 1);
     }
 
     private static void notEnough() {
