@@ -37,7 +37,6 @@ public final class JacquardDeck {
     private static final char SECOND = 'b';
 
     private static final int MOST_LETTERS = 20;
-    private static final int ROWS_LOOKED_AT = 8;
 
     private final Pattern[] patterns = new Pattern[MOST_PATTERNS];
     private int patternCount;
@@ -357,7 +356,7 @@ public final class JacquardDeck {
             return onLoom != null && weaveNextRow(onLoom);
         }
         if (word.equals("look")) {
-            // Looking changes nothing, and a word answers only whether it could be done.
+            // What is seen in the last 8 rows is not told: a word answers only whether it could be done.
             return onLoom != null;
         }
         if (word.equals("back")) {
@@ -621,7 +620,7 @@ public final class JacquardDeck {
 
         /** The row of the pattern at a row of the cloth, the pattern being gone round. */
         private int rowAt(int index) {
-            return rows < 1 ? 0 : Math.floorMod(index, rows);
+            return rows < 1 || index < 0 ? 0 : index % rows;
         }
 
         int weftAt(int index) {

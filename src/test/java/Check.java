@@ -68,6 +68,29 @@ final class Check {
         return x;
     }
 
+    /** A loom with one pattern of one row as told, compiled, and an order of 60 rows of it on the loom. */
+    static JacquardDeck loomFor(int hooks, int colour, int tension) {
+        JacquardDeck x = new JacquardDeck();
+        x.addPattern(1);
+        x.setRow(0, 0, hooks, colour, tension);
+        x.compile(0);
+        x.addOrder(0, 60);
+        x.begin(0);
+        return x;
+    }
+
+    /** The threads of a colour from the front on, each as lot:wear. */
+    static void dueThreads(String when, JacquardDeck x, int colour, String want) {
+        StringBuilder got = new StringBuilder();
+        for (int index = 0; index < x.threads(colour); index++) {
+            got.append(index == 0 ? "" : " ").append(x.lotOfThread(colour, index));
+            got.append(':').append(x.wearOfThread(colour, index));
+        }
+        if (!got.toString().equals(want)) {
+            tell(when + ": threads of colour " + colour + " are " + got + ", due is " + want);
+        }
+    }
+
     static boolean word(JacquardDeck x, String word) {
         for (char letter : word.toCharArray()) {
             x.type(letter);

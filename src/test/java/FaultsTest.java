@@ -279,7 +279,7 @@ final class FaultsTest {
         }
         int entries = 0;
         int unwoven = 0;
-        for (int time = 0; time < 100; time++) {
+        for (int time = 0; time < 95; time++) {
             entries += x.weave(60);
             Check.due("entries", x.entries(), entries);
             unwoven += x.unweave(0);
