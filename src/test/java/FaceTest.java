@@ -22,6 +22,7 @@ final class FaceTest {
         methods();
         otherMembers();
         names();
+        sizes();
         source();
         Check.end();
     }
@@ -133,6 +134,31 @@ final class FaceTest {
             for (Method method : inside.getDeclaredMethods()) {
                 Check.due("a name of the face: " + method, publicNames.contains(method.getName()), false);
             }
+        }
+    }
+
+    /** What a rule bounds: the parameters of a method, the fields of a class; and no static state. */
+    private static void sizes() {
+        sizesOf(JacquardDeck.class);
+        for (Class<?> inside : JacquardDeck.class.getDeclaredClasses()) {
+            sizesOf(inside);
+        }
+    }
+
+    private static void sizesOf(Class<?> one) {
+        int fields = 0;
+        for (Field field : one.getDeclaredFields()) {
+            boolean isStatic = Modifier.isStatic(field.getModifiers());
+            Check.due("a static field is final: " + field, isStatic && !Modifier.isFinal(field.getModifiers()), false);
+            Check.due("a static field is a number: " + field, isStatic && !field.getType().isPrimitive(), false);
+            fields += isStatic ? 0 : 1;
+        }
+        Check.due("at most twenty fields: " + one, fields <= 20, true);
+        for (Method method : one.getDeclaredMethods()) {
+            Check.due("at most seven parameters: " + method, method.getParameterCount() <= 7, true);
+        }
+        for (Constructor<?> constructor : one.getDeclaredConstructors()) {
+            Check.due("at most seven parameters: " + constructor, constructor.getParameterCount() <= 7, true);
         }
     }
 
